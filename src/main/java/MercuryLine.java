@@ -297,8 +297,10 @@ public final class MercuryLine {
         if (recorded >= history.length) {
             dropOldestState();
         }
-        history[recorded].copyFrom(now);
-        recorded++;
+        if (within(recorded, 0, history.length - 1)) {
+            history[recorded].copyFrom(now);
+            recorded++;
+        }
     }
 
     private void dropOldestState() {

@@ -19,15 +19,6 @@ public final class ForecastsTest {
         Check.end("ForecastsTest");
     }
 
-    private static MercuryLine oneLine(int slots, int... offsets) {
-        MercuryLine x = new MercuryLine();
-        x.build(0, slots);
-        for (int offset : offsets) {
-            x.addStation(0, offset);
-        }
-        return x;
-    }
-
     private static void fate(String why, MercuryLine x, int ticket, int... due) {
         for (int what = 0; what < due.length; what++) {
             Check.due("29: " + why + ", " + what, x.fate(ticket, what), due[what]);
@@ -35,7 +26,7 @@ public final class ForecastsTest {
     }
 
     private static void fateOfAnArrival() {
-        MercuryLine x = oneLine(8, 0, 3);
+        MercuryLine x = Setup.oneLine(8, 0, 3);
         Check.due("29: no ticket", x.fate(0, 0), UNKNOWN);
         x.book(7, 1, 0, 1, 2);
         Check.due("29: no ticket -1", x.fate(-1, 4), UNKNOWN);
@@ -55,7 +46,7 @@ public final class ForecastsTest {
     }
 
     private static void fateOfTheOthers() {
-        MercuryLine x = oneLine(4, 0, 1, 2);
+        MercuryLine x = Setup.oneLine(4, 0, 1, 2);
         x.book(1, 1, 0, 1, 3);
         x.setHeat(0, 10);
         fate("laps used in pauses", x, 0, 6, 4, 0, 0);
@@ -72,7 +63,7 @@ public final class ForecastsTest {
 
     /** A rider that pauses between stations never ends, nor does who waits for its slot. */
     private static void stuckForEver() {
-        MercuryLine x = oneLine(8, 0, 3);
+        MercuryLine x = Setup.oneLine(8, 0, 3);
         x.book(1, 1, 0, 1, 1);
         x.tick(1);
         x.setHeat(0, 10);
@@ -87,7 +78,7 @@ public final class ForecastsTest {
      * 9 * (n + 1), which is the 9 * (n + 1) + 1st tick from the first.
      */
     private static void atTheVeryLastTick() {
-        MercuryLine x = oneLine(8, 0, 3);
+        MercuryLine x = Setup.oneLine(8, 0, 3);
         x.setHeat(0, 10);
         for (int i = 0; i < 34; i++) {
             x.book(1, 1, 0, 1, 9);
@@ -102,7 +93,7 @@ public final class ForecastsTest {
     }
 
     private static void fateWithOrders() {
-        MercuryLine x = oneLine(4, 0, 2);
+        MercuryLine x = Setup.oneLine(4, 0, 2);
         x.setHeat(0, 10);
         x.setPatience(1);
         x.book(1, 1, 0, 1, 9);
@@ -121,7 +112,7 @@ public final class ForecastsTest {
     }
 
     private static void fateComesTrue() {
-        MercuryLine x = oneLine(6, 0, 2, 5);
+        MercuryLine x = Setup.oneLine(6, 0, 2, 5);
         x.build(1, 9);
         x.addStation(1, 4);
         x.addStation(1, 8);
@@ -148,7 +139,7 @@ public final class ForecastsTest {
     }
 
     private static void slotIn() {
-        MercuryLine x = oneLine(8, 0, 3);
+        MercuryLine x = Setup.oneLine(8, 0, 3);
         x.addStation(1, 1);
         Check.due("30: now", x.slotIn(1, 0), 3);
         Check.due("30: in 4 ticks", x.slotIn(1, 4), 7);
@@ -176,7 +167,7 @@ public final class ForecastsTest {
     }
 
     private static void lapsNeeded() {
-        MercuryLine x = oneLine(8, 0, 3, 5);
+        MercuryLine x = Setup.oneLine(8, 0, 3, 5);
         x.addStation(1, 2);
         x.addStation(1, 3);
         for (int from = 0; from < 3; from++) {
@@ -189,7 +180,7 @@ public final class ForecastsTest {
         Check.due("31: no station from which", x.lapsNeeded(3, 3), UNKNOWN);
         Check.due("31: no station to which", x.lapsNeeded(0, 12), UNKNOWN);
         Check.due("31: no station -1", x.lapsNeeded(-1, -1), UNKNOWN);
-        MercuryLine y = oneLine(4, 0, 2);
+        MercuryLine y = Setup.oneLine(4, 0, 2);
         y.setHeat(0, 5);
         Check.due("31: it does not pause in the first tick", y.lapsNeeded(0, 1), 1);
         y.tick(1);
@@ -201,12 +192,12 @@ public final class ForecastsTest {
     }
 
     private static void lapsThatAreTooMany() {
-        MercuryLine x = oneLine(4, 0, 1);
+        MercuryLine x = Setup.oneLine(4, 0, 1);
         x.setHeat(0, 10);
         Check.due("31: it never moves", x.lapsNeeded(0, 1), NONE);
         x.setHeat(0, -10);
         Check.due("31: it always skips", x.lapsNeeded(0, 1), NONE);
-        MercuryLine y = oneLine(8, 0, 3);
+        MercuryLine y = Setup.oneLine(8, 0, 3);
         y.setHeat(0, 9);
         y.tick(1);
         Check.due("31: drift 9", y.line(0, 2), 109);
@@ -227,18 +218,18 @@ public final class ForecastsTest {
     }
 
     private static void lapsWithinThreeHundredTicks() {
-        MercuryLine x = oneLine(24, 0, 1);
+        MercuryLine x = Setup.oneLine(24, 0, 1);
         x.setHeat(0, 9);
         Check.due("31: 23 steps, one in ten ticks", x.lapsNeeded(0, 1), 1);
-        MercuryLine y = oneLine(24, 0, 23);
+        MercuryLine y = Setup.oneLine(24, 0, 23);
         y.setHeat(0, 9);
         Check.due("31: one step", y.lapsNeeded(0, 1), 1);
-        MercuryLine z = oneLine(5, 0, 1, 2);
+        MercuryLine z = Setup.oneLine(5, 0, 1, 2);
         z.setHeat(0, -10);
         Check.due("31: skips of an odd line reach all", z.lapsNeeded(0, 1), 1);
         Check.due("31: station 2, too", z.lapsNeeded(0, 2), 1);
         // Behind one step it skips for ever, past both of the stations.
-        MercuryLine w = oneLine(4, 0, 2);
+        MercuryLine w = Setup.oneLine(4, 0, 2);
         w.setHeat(0, 9);
         w.tick(1);
         w.setHeat(0, -10);

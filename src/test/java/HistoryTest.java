@@ -8,14 +8,8 @@ public final class HistoryTest {
         whatIsNoActIsNotRecorded();
         keepAndRestore();
         aStateIsEverything();
+        anotherStateInItsPlace();
         Check.end("HistoryTest");
-    }
-
-    private static MercuryLine oneLine() {
-        MercuryLine x = new MercuryLine();
-        x.addStation(0, 0);
-        x.addStation(0, 3);
-        return x;
     }
 
     private static void undo() {
@@ -38,7 +32,7 @@ public final class HistoryTest {
     }
 
     private static void everyActIsRecorded() {
-        MercuryLine x = oneLine();
+        MercuryLine x = Setup.oneLine(8, 0, 3);
         x.undo();
         x.undo();
         String ticket = "1,1,00>01*1";
@@ -75,7 +69,7 @@ public final class HistoryTest {
     }
 
     private static void whatIsNoActIsNotRecorded() {
-        MercuryLine x = oneLine();
+        MercuryLine x = Setup.oneLine(8, 0, 3);
         x.book(1, 1, 0, 1, 1);
         x.fate(0, 0);
         x.slotIn(0, 7);
@@ -91,7 +85,7 @@ public final class HistoryTest {
     }
 
     private static void keepAndRestore() {
-        MercuryLine x = oneLine();
+        MercuryLine x = Setup.oneLine(8, 0, 3);
         Check.due("20: no snapshot", x.restore(), NONE);
         Check.due("20: nothing recorded", x.count(19), 2);
         x.book(7, 1, 0, 1, 1);
@@ -125,7 +119,7 @@ public final class HistoryTest {
 
     /** A long way there, and back again in one step: all that is told must be as it was. */
     private static void aStateIsEverything() {
-        MercuryLine x = oneLine();
+        MercuryLine x = Setup.oneLine(8, 0, 3);
         x.addStation(1, 0);
         x.addStation(1, 5);
         x.book(1, 1, 0, 11, 3);
@@ -150,6 +144,67 @@ public final class HistoryTest {
         x.tick(60);
         x.undo();
         same("18: after undo", before, allTold(x));
+    }
+
+    /** Other tickets, orders, stations and events under the same numbers, and back to the first. */
+    private static void anotherStateInItsPlace() {
+        MercuryLine x = new MercuryLine();
+        x.build(0, 4);
+        x.addStation(0, 0);
+        x.keep();
+        x.setPatience(0);
+        x.addStation(0, 3);
+        x.addStation(0, 2);
+        x.book(1, 1, 0, 2, 5);
+        x.book(2, 2, 0, 2, 6);
+        x.tick(1);
+        x.book(3, 3, 1, 0, 7);
+        x.call(1, 1);
+        x.call(0, 3);
+        x.call(2, 2);
+        x.order(0, 1);
+        x.tick(9);
+        x.setHeat(0, 10);
+        x.tick(60);
+        x.setFare(3);
+        x.drain(0);
+        x.endOrder(0);
+        Check.due("18: someone was shoved out", x.count(7) > 0);
+        Check.due("18: someone was called off", x.count(6) > 0);
+        Check.due("18: the order was skipped", x.ordered(0, 3) > 0);
+        int[] before = allTold(x);
+        x.restore();
+        x.addStation(0, 1);
+        x.book(77, 2, 1, 0, 9);
+        x.tick(20);
+        Check.due("18: all is otherwise", x.count(1), 1);
+        for (int left = 3; left >= 0; left--) {
+            Check.due("18: back", x.undo(), left);
+        }
+        same("18: as it was", before, allTold(x));
+        MercuryLine y = new MercuryLine();
+        y.addStation(0, 0);
+        y.addStation(0, 3);
+        y.book(1, 1, 0, 1, 1);
+        y.order(0, 5);
+        y.setFare(20);
+        y.tick(1);
+        before = allTold(y);
+        y.undo();
+        y.undo();
+        y.undo();
+        y.undo();
+        y.book(2, 2, 1, 0, 2);
+        y.tick(3);
+        y.order(0, 7);
+        y.undo();
+        y.undo();
+        y.undo();
+        y.book(1, 1, 0, 1, 1);
+        y.order(0, 5);
+        y.setFare(20);
+        y.tick(1);
+        same("18: once more the same way", before, allTold(y));
     }
 
     private static void same(String when, int[] before, int[] after) {

@@ -16,15 +16,6 @@ public final class TextsTest {
         Check.end("TextsTest");
     }
 
-    private static MercuryLine twoLines() {
-        MercuryLine x = new MercuryLine();
-        x.addStation(0, 0);
-        x.addStation(0, 4);
-        x.addStation(1, 0);
-        x.addStation(1, 4);
-        return x;
-    }
-
     private static int read(MercuryLine x, String text) {
         x.clearText();
         for (int i = 0; i < text.length(); i++) {
@@ -41,7 +32,7 @@ public final class TextsTest {
         Check.due("15: one more", x.type('1'), FULL);
         Check.due("15: length", x.count(20), 60);
         Check.due("15: no act", x.count(19), 0);
-        MercuryLine y = twoLines();
+        MercuryLine y = Setup.twoLines();
         y.type('1');
         y.setFare(20);
         y.type(',');
@@ -52,7 +43,7 @@ public final class TextsTest {
     }
 
     private static void clearText() {
-        MercuryLine x = twoLines();
+        MercuryLine x = Setup.twoLines();
         Check.due("16: empty", x.clearText(), 0);
         x.type('7');
         x.type('8');
@@ -65,7 +56,7 @@ public final class TextsTest {
     }
 
     private static void faults() {
-        MercuryLine x = twoLines();
+        MercuryLine x = Setup.twoLines();
         Check.due("17: the empty text", x.readTickets(), -100);
         String ticket = "65535,3,00>11*9";
         for (int i = 1; i < ticket.length(); i++) {
@@ -95,7 +86,7 @@ public final class TextsTest {
     }
 
     private static void faultsInTheSecondTicket() {
-        MercuryLine x = twoLines();
+        MercuryLine x = Setup.twoLines();
         String first = "1,1,00>01*1;";
         Check.due("17: none behind ;", read(x, first), -112);
         Check.due("17: ; twice", read(x, first + ";"), -112);
@@ -115,7 +106,7 @@ public final class TextsTest {
             "01", "012345", "*", "123456789"};
         for (int place = 0; place < good.length(); place++) {
             for (char sign = 0; sign < 256; sign++) {
-                MercuryLine x = twoLines();
+                MercuryLine x = Setup.twoLines();
                 String text = good.substring(0, place) + sign;
                 boolean atItsPlace = allowed[place].indexOf(sign) >= 0 || place == 0 && sign == '0';
                 boolean whole = (place == 11 || place == 23) && atItsPlace;
@@ -128,7 +119,7 @@ public final class TextsTest {
     }
 
     private static void readTickets() {
-        MercuryLine x = twoLines();
+        MercuryLine x = Setup.twoLines();
         int recorded = x.count(19);
         Check.due("17: one", read(x, "7,2,00>11*3"), 60);
         int[] told = {7, 2, 0, 11, 3, 60, 0};
@@ -150,10 +141,13 @@ public final class TextsTest {
         Check.due("17: one act", x.count(1), 2);
         Check.due("17: five in a text", read(x, "1,1,00>01*1;2,1,00>01*1;3,1,00>01*1;4,1,00>01*1;5,1,00>01*1"), 495);
         Check.due("17: all are there", x.ticket(6, 0), 5);
+        Check.due("17: zeros behind a digit", read(x, "10,1,00>01*1;50300,1,00>01*1"), 198);
+        Check.due("17: ten", x.ticket(7, 0), 10);
+        Check.due("17: fifty thousand three hundred", x.ticket(8, 0), 50300);
     }
 
     private static void refusals() {
-        MercuryLine x = twoLines();
+        MercuryLine x = Setup.twoLines();
         int recorded = x.count(19);
         Check.due("17: no station from which", read(x, "1,1,02>01*1"), UNKNOWN);
         Check.due("17: no station to which", read(x, "1,1,00>15*1"), UNKNOWN);
@@ -169,7 +163,7 @@ public final class TextsTest {
     }
 
     private static void fullTexts() {
-        MercuryLine x = twoLines();
+        MercuryLine x = Setup.twoLines();
         for (int i = 0; i < 38; i++) {
             x.book(i, 1, 0, 1, 1);
         }

@@ -32,19 +32,9 @@ public final class TickTest {
         Check.end("TickTest");
     }
 
-    /** A line 0 of some slots with stations at these offsets. */
-    private static MercuryLine oneLine(int slots, int... offsets) {
-        MercuryLine x = new MercuryLine();
-        x.build(0, slots);
-        for (int offset : offsets) {
-            x.addStation(0, offset);
-        }
-        return x;
-    }
-
     /** Both lines of four slots with stations at the offsets 0 and 2. */
     private static MercuryLine twoLines() {
-        MercuryLine x = oneLine(4, 0, 2);
+        MercuryLine x = Setup.oneLine(4, 0, 2);
         x.build(1, 4);
         x.addStation(1, 0);
         x.addStation(1, 2);
@@ -73,7 +63,7 @@ public final class TickTest {
     }
 
     private static void arrivals() {
-        MercuryLine x = oneLine(8, 0, 3, 5);
+        MercuryLine x = Setup.oneLine(8, 0, 3, 5);
         x.book(6, 1, 0, 1, 1);
         x.book(3, 2, 2, 1, 1);
         Check.due("14: ticket 1 boards slot 5, ticket 0 slot 0", x.tick(1), 0);
@@ -93,7 +83,7 @@ public final class TickTest {
     }
 
     private static void whoBoards() {
-        MercuryLine x = oneLine(8, 0, 4);
+        MercuryLine x = Setup.oneLine(8, 0, 4);
         int[] kinds = {1, 3, 2, 3, 1};
         for (int kind : kinds) {
             x.book(1, kind, 0, 1, 9);
@@ -108,7 +98,7 @@ public final class TickTest {
     }
 
     private static void arrivingGoesAheadOfCalls() {
-        MercuryLine x = oneLine(8, 0, 3);
+        MercuryLine x = Setup.oneLine(8, 0, 3);
         x.book(7, 1, 0, 1, 1);
         x.call(1, 7);
         x.tick(6);
@@ -117,7 +107,7 @@ public final class TickTest {
     }
 
     private static void callsGoAheadOfLaps() {
-        MercuryLine x = oneLine(4, 0, 1);
+        MercuryLine x = Setup.oneLine(4, 0, 1);
         x.setHeat(0, 10);
         x.book(7, 1, 1, 0, 1);
         x.call(1, 5);
@@ -137,7 +127,7 @@ public final class TickTest {
     }
 
     private static void callsOnTheWay() {
-        MercuryLine x = oneLine(8, 0, 3, 5);
+        MercuryLine x = Setup.oneLine(8, 0, 3, 5);
         x.book(6, 1, 0, 1, 1);
         x.call(2, 6);
         x.call(0, 6);
@@ -155,7 +145,7 @@ public final class TickTest {
 
     /** Of four slots a line that always skips passes two in turn: station 1 is never reached. */
     private static void lapsAreUsed() {
-        MercuryLine x = oneLine(4, 0, 1, 2);
+        MercuryLine x = Setup.oneLine(4, 0, 1, 2);
         x.setHeat(0, -10);
         x.book(7, 2, 0, 1, 3);
         int[] left = {3, 3, 2, 2, 1, 1, 0};
@@ -170,7 +160,7 @@ public final class TickTest {
     }
 
     private static void lapsAndPauses() {
-        MercuryLine x = oneLine(4, 0, 2);
+        MercuryLine x = Setup.oneLine(4, 0, 2);
         x.setHeat(0, 10);
         x.book(7, 3, 0, 1, 3);
         x.tick(1);
@@ -195,7 +185,7 @@ public final class TickTest {
     }
 
     private static void laterStationsSeeWhatEarlierDid() {
-        MercuryLine x = oneLine(2, 1, 0);
+        MercuryLine x = Setup.oneLine(2, 1, 0);
         x.book(1, 1, 0, 1, 1);
         x.book(2, 3, 1, 0, 1);
         x.tick(1);
@@ -291,7 +281,7 @@ public final class TickTest {
      * the junction, and the word has not boarded there.
      */
     private static MercuryLine stuckAtTheJunction(int kind) {
-        MercuryLine x = oneLine(3, 0, 1, 2);
+        MercuryLine x = Setup.oneLine(3, 0, 1, 2);
         x.build(1, 4);
         x.addStation(1, 0);
         x.addStation(1, 2);
@@ -358,7 +348,7 @@ public final class TickTest {
     }
 
     private static void shovingOut() {
-        MercuryLine x = oneLine(4, 0, 3, 2);
+        MercuryLine x = Setup.oneLine(4, 0, 3, 2);
         x.setPatience(0);
         x.book(1, 1, 0, 2, 5);
         x.tick(1);
@@ -382,7 +372,7 @@ public final class TickTest {
     }
 
     private static int arriveAndBoard() {
-        MercuryLine x = oneLine(4, 0, 3);
+        MercuryLine x = Setup.oneLine(4, 0, 3);
         x.setPatience(0);
         x.book(1, 1, 0, 1, 5);
         x.tick(1);
@@ -395,7 +385,7 @@ public final class TickTest {
     private static void shovingByClass() {
         for (int rider = 1; rider <= 3; rider++) {
             for (int other = 1; other <= 3; other++) {
-                MercuryLine x = oneLine(4, 0, 3, 2);
+                MercuryLine x = Setup.oneLine(4, 0, 3, 2);
                 x.setPatience(0);
                 x.book(1, rider, 0, 2, 5);
                 x.tick(1);
@@ -408,7 +398,7 @@ public final class TickTest {
     }
 
     private static void shovingNeedsPatience() {
-        MercuryLine x = oneLine(4, 0, 1);
+        MercuryLine x = Setup.oneLine(4, 0, 1);
         x.setHeat(0, 10);
         x.book(1, 1, 0, 1, 9);
         x.tick(1);
@@ -421,7 +411,7 @@ public final class TickTest {
     }
 
     private static void shovingAfterALap() {
-        MercuryLine x = oneLine(4, 0, 1);
+        MercuryLine x = Setup.oneLine(4, 0, 1);
         x.setHeat(0, 10);
         x.setPatience(0);
         x.book(1, 2, 0, 1, 2);
@@ -436,7 +426,7 @@ public final class TickTest {
     }
 
     private static void patienceInTheHall() {
-        MercuryLine x = oneLine(4, 0, 1);
+        MercuryLine x = Setup.oneLine(4, 0, 1);
         x.build(1, 4);
         x.addStation(1, 0);
         x.addStation(1, 1);
@@ -479,7 +469,7 @@ public final class TickTest {
     }
 
     private static void aSkippedStation() {
-        MercuryLine x = oneLine(4, 0, 1);
+        MercuryLine x = Setup.oneLine(4, 0, 1);
         x.setHeat(0, -10);
         x.book(1, 1, 0, 1, 1);
         x.tick(2);
@@ -489,7 +479,7 @@ public final class TickTest {
     }
 
     private static void ordersInATick() {
-        MercuryLine x = oneLine(8, 0, 4);
+        MercuryLine x = Setup.oneLine(8, 0, 4);
         x.book(1, 1, 0, 1, 1);
         x.book(2, 2, 0, 1, 1);
         x.cancel(0);
@@ -507,7 +497,7 @@ public final class TickTest {
     }
 
     private static void ordersWithoutRoom() {
-        MercuryLine x = oneLine(8, 0, 4);
+        MercuryLine x = Setup.oneLine(8, 0, 4);
         for (int i = 0; i < 39; i++) {
             x.book(i, 1, 0, 1, 1);
         }

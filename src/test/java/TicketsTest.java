@@ -20,18 +20,8 @@ public final class TicketsTest {
         Check.end("TicketsTest");
     }
 
-    /** Both lines with two stations, at the offsets 0 and 4 of 8 slots. */
-    private static MercuryLine twoLines() {
-        MercuryLine x = new MercuryLine();
-        x.addStation(0, 0);
-        x.addStation(0, 4);
-        x.addStation(1, 0);
-        x.addStation(1, 4);
-        return x;
-    }
-
     private static void book() {
-        MercuryLine x = twoLines();
+        MercuryLine x = Setup.twoLines();
         int[] bad = {-1, 2, 9, 12, 19, 20, 100, Integer.MAX_VALUE, Integer.MIN_VALUE};
         for (int station : bad) {
             Check.due("8: from " + station, x.book(-1, 0, station, 0, 0), UNKNOWN);
@@ -58,7 +48,7 @@ public final class TicketsTest {
     }
 
     private static void bookIsFull() {
-        MercuryLine x = twoLines();
+        MercuryLine x = Setup.twoLines();
         for (int i = 0; i < 40; i++) {
             Check.due("8: ticket " + i, x.book(i, 1, 0, 1, 1), i);
             if (i % 2 == 0) {
@@ -73,7 +63,7 @@ public final class TicketsTest {
     }
 
     private static void cancelWhereItWaits() {
-        MercuryLine x = twoLines();
+        MercuryLine x = Setup.twoLines();
         Check.due("9: no ticket 0", x.cancel(0), UNKNOWN);
         Check.due("9: no ticket -1", x.cancel(-1), UNKNOWN);
         x.book(1, 1, 0, 1, 1);
@@ -94,7 +84,7 @@ public final class TicketsTest {
     }
 
     private static void cancelWhereItRides() {
-        MercuryLine x = twoLines();
+        MercuryLine x = Setup.twoLines();
         x.setFare(5);
         x.book(1, 1, 0, 1, 3);
         x.tick(1);
@@ -122,7 +112,7 @@ public final class TicketsTest {
     }
 
     private static void cancelInAHall() {
-        MercuryLine x = twoLines();
+        MercuryLine x = Setup.twoLines();
         x.book(3, 1, 11, 1, 2);
         x.tick(5);
         Check.due("9: it is in the hall of line 0", x.ticket(0, 6), 2);
@@ -135,7 +125,7 @@ public final class TicketsTest {
     }
 
     private static void call() {
-        MercuryLine x = twoLines();
+        MercuryLine x = Setup.twoLines();
         Check.due("10: no station", x.call(2, -1), UNKNOWN);
         Check.due("10: value -1", x.call(1, -1), BAD_VALUE);
         Check.due("10: value 65536", x.call(1, 65536), BAD_VALUE);
@@ -153,7 +143,7 @@ public final class TicketsTest {
     }
 
     private static void callBack() {
-        MercuryLine x = twoLines();
+        MercuryLine x = Setup.twoLines();
         Check.due("11: no station", x.callBack(-1), UNKNOWN);
         Check.due("11: no call", x.callBack(10), NONE);
         x.call(10, 0);
@@ -174,7 +164,7 @@ public final class TicketsTest {
     }
 
     private static void order() {
-        MercuryLine x = twoLines();
+        MercuryLine x = Setup.twoLines();
         Check.due("12: no ticket", x.order(0, 0), UNKNOWN);
         x.book(7, 2, 1, 10, 3);
         Check.due("12: no ticket 1", x.order(1, 1), UNKNOWN);
@@ -227,7 +217,7 @@ public final class TicketsTest {
     }
 
     private static void endOrder() {
-        MercuryLine x = twoLines();
+        MercuryLine x = Setup.twoLines();
         x.book(7, 1, 0, 1, 1);
         Check.due("13: no order", x.endOrder(0), UNKNOWN);
         Check.due("13: no order -1", x.endOrder(-1), UNKNOWN);

@@ -19,22 +19,12 @@ public final class ToldTest {
         Check.end("ToldTest");
     }
 
-    /** Both lines of eight slots, with stations at the offsets 0 and 4. */
-    private static MercuryLine twoLines() {
-        MercuryLine x = new MercuryLine();
-        x.addStation(0, 0);
-        x.addStation(0, 4);
-        x.addStation(1, 0);
-        x.addStation(1, 4);
-        return x;
-    }
-
     private static void told(String name, int got, int want) {
         Check.due(name, got, want);
     }
 
     private static void line() {
-        MercuryLine x = twoLines();
+        MercuryLine x = Setup.twoLines();
         x.setHeat(1, 6);
         x.book(1, 1, 11, 1, 1);
         x.book(2, 1, 10, 11, 1);
@@ -56,7 +46,7 @@ public final class ToldTest {
         told("21: what -1", x.line(0, -1), BAD_VALUE);
         told("21: line 2", x.line(2, 0), UNKNOWN);
         told("21: line ahead of what", x.line(-1, 9), UNKNOWN);
-        MercuryLine y = twoLines();
+        MercuryLine y = Setup.twoLines();
         y.book(1, 1, 11, 1, 1);
         y.tick(5);
         told("21: the hall of line 0", y.line(0, 6), 1);
@@ -65,7 +55,7 @@ public final class ToldTest {
     }
 
     private static void slot() {
-        MercuryLine x = twoLines();
+        MercuryLine x = Setup.twoLines();
         x.book(1, 1, 11, 10, 1);
         x.book(2, 1, 10, 11, 1);
         x.tick(1);
@@ -87,7 +77,7 @@ public final class ToldTest {
     }
 
     private static void station() {
-        MercuryLine x = twoLines();
+        MercuryLine x = Setup.twoLines();
         x.tick(5);
         int[] due = {4, 1, 0, 0, 0, 0, 0, 0, NONE};
         for (int what = 0; what < due.length; what++) {
@@ -119,7 +109,7 @@ public final class ToldTest {
     }
 
     private static void theHallIsToldOtherwise() {
-        MercuryLine x = twoLines();
+        MercuryLine x = Setup.twoLines();
         x.book(1, 1, 11, 1, 1);
         x.tick(5);
         told("23: who is in the hall does not wait at the station", x.station(0, 2), 0);
@@ -130,7 +120,7 @@ public final class ToldTest {
     }
 
     private static void waiting() {
-        MercuryLine x = twoLines();
+        MercuryLine x = Setup.twoLines();
         int[] kinds = {1, 2, 3, 2, 1, 3};
         for (int kind : kinds) {
             x.book(1, kind, 1, 0, 1);
@@ -148,14 +138,14 @@ public final class ToldTest {
         for (int far : FAR) {
             told("24: station " + far, x.waiting(far, 0), UNKNOWN);
         }
-        MercuryLine y = twoLines();
+        MercuryLine y = Setup.twoLines();
         y.book(1, 1, 11, 1, 1);
         y.tick(5);
         told("24: the hall not", y.waiting(0, 0), NONE);
     }
 
     private static void calls() {
-        MercuryLine x = twoLines();
+        MercuryLine x = Setup.twoLines();
         told("25: none", x.calls(0, 0), NONE);
         x.call(0, 5);
         x.call(0, 0);
@@ -172,7 +162,7 @@ public final class ToldTest {
     }
 
     private static void ticket() {
-        MercuryLine x = twoLines();
+        MercuryLine x = Setup.twoLines();
         x.tick(2);
         x.book(77, 2, 10, 11, 4);
         int[] waits = {77, 2, 10, 11, 4, 80, 0, NONE, NONE, 2, NONE, NONE, NONE, NONE};
@@ -199,7 +189,7 @@ public final class ToldTest {
     }
 
     private static void ordered() {
-        MercuryLine x = twoLines();
+        MercuryLine x = Setup.twoLines();
         x.book(9, 1, 10, 1, 4);
         x.tick(3);
         x.order(0, 4);
@@ -240,7 +230,7 @@ public final class ToldTest {
     }
 
     private static void event() {
-        MercuryLine x = twoLines();
+        MercuryLine x = Setup.twoLines();
         told("32: none", x.event(0, 0), NONE);
         told("32: back -1", x.event(-1, 0), BAD_VALUE);
         told("32: what 5", x.event(0, 5), BAD_VALUE);
@@ -267,7 +257,7 @@ public final class ToldTest {
     }
 
     private static void count() {
-        MercuryLine x = twoLines();
+        MercuryLine x = Setup.twoLines();
         x.setFare(7);
         x.setPatience(9);
         x.book(5, 1, 1, 0, 3);
@@ -303,7 +293,7 @@ public final class ToldTest {
     }
 
     private static void aStateForEachEnd() {
-        MercuryLine x = twoLines();
+        MercuryLine x = Setup.twoLines();
         x.setPatience(0);
         x.book(1, 1, 0, 1, 9);
         told("33: waits", x.count(2), 1);
