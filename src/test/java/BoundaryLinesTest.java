@@ -264,7 +264,8 @@ public final class BoundaryLinesTest {
 
     private static void hallKeepsTheStationFromShoving() {
         Sentence s = new Sentence("LINES",
-            "As long as anybody is in the hall, those who wait at the station itself do not board, and shove nobody out.");
+            "As long as anybody is in the hall, those who wait at the station itself do not board, "
+            + "and shove nobody out.");
         MercuryLine x = Setup.blockedJunction(1);
         x.setPatience(0);
         x.book(1, 1, 11, 1, 9);

@@ -36,7 +36,8 @@ public final class BoundaryQuotesTest {
                 everyTestIsRun(source.getFileName().toString(), code);
             }
         }
-        Check.due("all promises are there", Doc.parts().keySet().stream().filter(p -> p.startsWith("Promise")).count() == 33);
+        long promises = Doc.parts().keySet().stream().filter(part -> part.startsWith("Promise")).count();
+        Check.due("all promises are there", promises == 33);
         quoted.forEach(BoundaryQuotesTest::nothingIsLeftOut);
         Check.end("BoundaryQuotesTest");
     }

@@ -438,7 +438,8 @@ public final class BoundaryTickTest {
 
     private static void boardsAnEmptySlot() {
         Sentence s = new Sentence("A TICK", "If the slot is empty then, the first of the hall of this line boards "
-            + "if this is the station 0 and there is one, otherwise the first that waits at this station, if there is one.");
+            + "if this is the station 0 and there is one, otherwise the first that waits at this station, "
+            + "if there is one.");
         MercuryLine x = Setup.inState(2);
         x.book(9, 3, 0, 1, 1);
         x.tick(1);
@@ -621,7 +622,8 @@ public final class BoundaryTickTest {
     }
 
     private static void shovesFromTheHall() {
-        Sentence s = new Sentence("A TICK", "the one that would board there is of a greater class than the word in the slot");
+        Sentence s = new Sentence("A TICK",
+            "the one that would board there is of a greater class than the word in the slot");
         MercuryLine x = Setup.blockedJunction(1);
         x.book(1, 2, 11, 1, 9);
         x.tick(3);

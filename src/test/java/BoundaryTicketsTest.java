@@ -101,7 +101,8 @@ public final class BoundaryTicketsTest {
 
     private static void stationsOfATicket() {
         Sentence s = new Sentence("TICKETS",
-            "a station from which and a station to which it goes (on the same line or the other one; not the same station)");
+            "a station from which and a station to which it goes "
+            + "(on the same line or the other one; not the same station)");
         int[] stations = {0, 1, 10, 11};
         for (int from : stations) {
             for (int to : stations) {
@@ -167,7 +168,8 @@ public final class BoundaryTicketsTest {
     }
 
     private static void faresAndPrices() {
-        Sentence s = new Sentence("TICKETS", "The fare is from 1 to 99 (at first 10). A ticket of n laps costs n * fare "
+        Sentence s = new Sentence("TICKETS",
+            "The fare is from 1 to 99 (at first 10). A ticket of n laps costs n * fare "
             + "in the class 1, 2 * n * fare in the class 2, and 3 * n * fare + 25 in the class 3.");
         int[][] due = {
             {10, 10, 20, 55, 90, 180, 295}, {1, 1, 2, 28, 9, 18, 52}, {99, 99, 198, 322, 891, 1782, 2698}};

@@ -177,7 +177,8 @@ public final class BoundaryToldTest {
     }
 
     private static void slotReturns() {
-        Sentence s = new Sentence("Promise 22", "Returns the ticket of the word in it; UNKNOWN; BAD_VALUE; NONE if it is empty.");
+        Sentence s = new Sentence("Promise 22",
+            "Returns the ticket of the word in it; UNKNOWN; BAD_VALUE; NONE if it is empty.");
         MercuryLine x = Setup.oneLine(8, 7, 0);
         x.book(1, 1, 0, 1, 9);
         x.book(2, 1, 1, 0, 9);
@@ -425,7 +426,8 @@ public final class BoundaryToldTest {
 
     private static void ticketEnds() {
         Sentence s = new Sentence("Promise 26", "12 for the station at which it ended (NONE if it has not, or did not "
-            + "end at one: drained and cancelled ones), 13 for the ticket by which it was shoved out (NONE if it was not)");
+            + "end at one: drained and cancelled ones), 13 for the ticket by which it was shoved out "
+            + "(NONE if it was not)");
         int[] stations = {NONE, NONE, NONE, 1, 0, 0, 0, NONE, NONE};
         for (int state = 0; state <= 8; state++) {
             MercuryLine x = Setup.inState(state);
@@ -497,7 +499,8 @@ public final class BoundaryToldTest {
     }
 
     private static void priceRange() {
-        Sentence s = new Sentence("Promise 28", "- kind: the class, 1 to 3 - laps: 1 to 9 Returns the price; BAD_VALUE.");
+        Sentence s = new Sentence("Promise 28",
+            "- kind: the class, 1 to 3 - laps: 1 to 9 Returns the price; BAD_VALUE.");
         for (int kind : new int[] {Integer.MIN_VALUE, -1, 0, 4, Integer.MAX_VALUE}) {
             s.unchanged("price(" + kind + ", 1)", MercuryLine::new, x -> x.price(kind, 1), BAD_VALUE);
             s.unchanged("price(" + kind + ", 0)", MercuryLine::new, x -> x.price(kind, 0), BAD_VALUE);
@@ -547,7 +550,8 @@ public final class BoundaryToldTest {
             s.unchanged("event(0, " + what + ") of none", MercuryLine::new, x -> x.event(0, what), BAD_VALUE);
         }
         s.event("what 0 to 4", pausing(1), 0, 6, NONE, 1, NONE, 0);
-        Sentence none = new Sentence("Promise 32", "what: 0 for its kind, 1 for its ticket (NONE for 6 and 7), 2 for its line, "
+        Sentence none = new Sentence("Promise 32",
+            "what: 0 for its kind, 1 for its ticket (NONE for 6 and 7), 2 for its line, "
             + "3 for its station as 10 * line + number (NONE for 6, 7 and 8), 4 for its tick");
         none.event("drained: a ticket, but no station", Setup.inState(7), 0, 8, 0, 0, NONE, 1);
         none.event("of the last stations", lastStations(), 0, 0, 1, 1, 15, 0);
@@ -590,7 +594,8 @@ public final class BoundaryToldTest {
 
     private static void countStates() {
         Sentence s = new Sentence("Promise 33",
-            "what: 0 for the number of the tick, 1 for the tickets there have been, 2 to 10 for tickets in the states 0 to 8");
+            "what: 0 for the number of the tick, 1 for the tickets there have been, "
+            + "2 to 10 for tickets in the states 0 to 8");
         int[] ticks = {0, 1, 3, 3, 3, 2, 3, 1, 0};
         for (int state = 0; state <= 8; state++) {
             MercuryLine x = Setup.inState(state);
