@@ -153,7 +153,7 @@ public final class MercuryLine {
             return NOT_POSSIBLE;
         }
         recordState();
-        return now.callIn(cancelled);
+        return now.withdraw(cancelled);
     }
 
     public int call(int station, int value) {
@@ -1137,7 +1137,7 @@ public final class MercuryLine {
         }
 
         /** Cancels a ticket; answers what is refunded. */
-        int callIn(Ticket ticket) {
+        int withdraw(Ticket ticket) {
             int back = ticket.paid;
             if (ticket.state == Ticket.RIDES) {
                 back = ticket.paid / 2;

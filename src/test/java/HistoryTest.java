@@ -1,3 +1,5 @@
+import java.util.List;
+
 /** Promises 18 to 20: undo and the snapshot. */
 public final class HistoryTest {
     private static final int NONE = MercuryLine.NONE;
@@ -119,6 +121,12 @@ public final class HistoryTest {
 
     /** A long way there, and back again in one step: all that is told must be as it was. */
     private static void aStateIsEverything() {
+        List<String> before = Told.state(HistoryTest::underWay);
+        same("20: after restore", before, Told.state(HistoryTest::restored));
+        same("18: after undo", before, Told.state(HistoryTest::restoredAndUndone));
+    }
+
+    private static MercuryLine underWay() {
         MercuryLine x = Setup.oneLine(8, 0, 3);
         x.addStation(1, 0);
         x.addStation(1, 5);
@@ -128,7 +136,11 @@ public final class HistoryTest {
         x.order(0, 7);
         x.setHeat(1, 7);
         x.tick(9);
-        int[] before = allTold(x);
+        return x;
+    }
+
+    private static MercuryLine restored() {
+        MercuryLine x = underWay();
         x.keep();
         x.setHeat(0, -9);
         x.setPatience(0);
@@ -140,14 +152,33 @@ public final class HistoryTest {
         x.build(1, 20);
         x.addStation(1, 19);
         x.restore();
-        same("20: after restore", before, allTold(x));
+        return x;
+    }
+
+    private static MercuryLine restoredAndUndone() {
+        MercuryLine x = restored();
         x.tick(60);
         x.undo();
-        same("18: after undo", before, allTold(x));
+        return x;
     }
 
     /** Other tickets, orders, stations and events under the same numbers, and back to the first. */
     private static void anotherStateInItsPlace() {
+        MercuryLine x = manyThings();
+        Check.due("18: someone was shoved out", x.count(7) > 0);
+        Check.due("18: someone was called off", x.count(6) > 0);
+        Check.due("18: the order was skipped", x.ordered(0, 3) > 0);
+        otherThings(x);
+        Check.due("18: all is otherwise", x.count(1), 1);
+        for (int left = 3; left >= 0; left--) {
+            Check.due("18: back", x.undo(), left);
+        }
+        same("18: as it was", Told.state(HistoryTest::manyThings), Told.state(HistoryTest::manyThingsAgain));
+        same("18: once more the same way", Told.state(() -> fewThings(new MercuryLine())),
+            Told.state(HistoryTest::fewThingsAgain));
+    }
+
+    private static MercuryLine manyThings() {
         MercuryLine x = new MercuryLine();
         x.build(0, 4);
         x.addStation(0, 0);
@@ -169,88 +200,58 @@ public final class HistoryTest {
         x.setFare(3);
         x.drain(0);
         x.endOrder(0);
-        Check.due("18: someone was shoved out", x.count(7) > 0);
-        Check.due("18: someone was called off", x.count(6) > 0);
-        Check.due("18: the order was skipped", x.ordered(0, 3) > 0);
-        int[] before = allTold(x);
+        return x;
+    }
+
+    /** Four acts, as many as undo() takes back. */
+    private static void otherThings(MercuryLine x) {
         x.restore();
         x.addStation(0, 1);
         x.book(77, 2, 1, 0, 9);
         x.tick(20);
-        Check.due("18: all is otherwise", x.count(1), 1);
-        for (int left = 3; left >= 0; left--) {
-            Check.due("18: back", x.undo(), left);
-        }
-        same("18: as it was", before, allTold(x));
-        MercuryLine y = new MercuryLine();
-        y.addStation(0, 0);
-        y.addStation(0, 3);
-        y.book(1, 1, 0, 1, 1);
-        y.order(0, 5);
-        y.setFare(20);
-        y.tick(1);
-        before = allTold(y);
-        y.undo();
-        y.undo();
-        y.undo();
-        y.undo();
-        y.book(2, 2, 1, 0, 2);
-        y.tick(3);
-        y.order(0, 7);
-        y.undo();
-        y.undo();
-        y.undo();
-        y.book(1, 1, 0, 1, 1);
-        y.order(0, 5);
-        y.setFare(20);
-        y.tick(1);
-        same("18: once more the same way", before, allTold(y));
     }
 
-    private static void same(String when, int[] before, int[] after) {
-        for (int i = 0; i < before.length; i++) {
-            Check.due(when + ", answer " + i, after[i], before[i]);
+    private static MercuryLine manyThingsAgain() {
+        MercuryLine x = manyThings();
+        otherThings(x);
+        undoFourTimes(x);
+        return x;
+    }
+
+    private static MercuryLine fewThings(MercuryLine x) {
+        x.addStation(0, 0);
+        x.addStation(0, 3);
+        return bookAndOrder(x);
+    }
+
+    private static MercuryLine bookAndOrder(MercuryLine x) {
+        x.book(1, 1, 0, 1, 1);
+        x.order(0, 5);
+        x.setFare(20);
+        x.tick(1);
+        return x;
+    }
+
+    private static MercuryLine fewThingsAgain() {
+        MercuryLine x = fewThings(new MercuryLine());
+        undoFourTimes(x);
+        x.book(2, 2, 1, 0, 2);
+        x.tick(3);
+        x.order(0, 7);
+        x.undo();
+        x.undo();
+        x.undo();
+        return bookAndOrder(x);
+    }
+
+    private static void undoFourTimes(MercuryLine x) {
+        for (int undone = 0; undone < 4; undone++) {
+            x.undo();
         }
     }
 
-    private static int[] allTold(MercuryLine x) {
-        int[] told = new int[2000];
-        int n = 0;
-        for (int what = 0; what <= 18; what++) {
-            told[n++] = x.count(what);
-        }
-        for (int line = 0; line < 2; line++) {
-            for (int what = 0; what <= 8; what++) {
-                told[n++] = x.line(line, what);
-            }
-            for (int slot = 0; slot < 24; slot++) {
-                told[n++] = x.slot(line, slot);
-            }
-        }
-        for (int station = 0; station < 16; station++) {
-            for (int what = 0; what <= 8; what++) {
-                told[n++] = x.station(station, what);
-            }
-            for (int place = 0; place < 3; place++) {
-                told[n++] = x.calls(station, place);
-                told[n++] = x.waiting(station, place);
-            }
-        }
-        for (int ticket = 0; ticket < 40; ticket++) {
-            for (int what = 0; what <= 13; what++) {
-                told[n++] = x.ticket(ticket, what);
-            }
-        }
-        for (int order = 0; order < 4; order++) {
-            for (int what = 0; what <= 6; what++) {
-                told[n++] = x.ordered(order, what);
-            }
-        }
-        for (int back = 0; back < 12; back++) {
-            for (int what = 0; what <= 4; what++) {
-                told[n++] = x.event(back, what);
-            }
-        }
-        return told;
+    private static void same(String when, List<String> before, List<String> after) {
+        String difference = Told.difference(before, after);
+        Check.due(when + " " + difference, difference.isEmpty());
     }
 }

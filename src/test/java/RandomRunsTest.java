@@ -1,29 +1,49 @@
+import java.util.ArrayList;
+import java.util.Collections;
+import java.util.List;
 import java.util.Random;
 
-/** Runs of calls drawn from fixed seeds, each answer compared with the one of ReferenceLine. */
+/**
+ * Runs of calls drawn from fixed seeds, each answer compared with the one of ReferenceLine. What an
+ * object answers behind its 512th call is free: so all that is told is asked of further objects, on
+ * which the run is made anew.
+ */
 public final class RandomRunsTest {
-    private static final int CALLS = 512;
+    private static final int MOST_CALLS = 512;
+    /** A shorter run has room for one more step, be it a text that is typed, and for some questions. */
+    private static final int LONG_RUN = 400;
+
+    private record Due(Call call, int answer) {
+        void compare(String when, MercuryLine x) {
+            int got = call.of(x);
+            Check.due(got == answer ? when : when + call.text(), got, answer);
+        }
+    }
 
     private final Random random;
     private final String name;
     private final MercuryLine line = new MercuryLine();
     private final ReferenceLine reference = new ReferenceLine();
+    private final List<Due> made = new ArrayList<>();
+    private final List<Due> asked = new ArrayList<>();
     private final int values;
     private final int wrongPercent;
     private final int longTickPercent;
+    private final int textPercent;
     private final boolean busy;
 
     private RandomRunsTest(int seed) {
         random = new Random(seed);
-        name = "run " + seed;
+        name = "run " + seed + ": ";
         values = 1 + random.nextInt(12);
         wrongPercent = random.nextInt(4) * 5;
         longTickPercent = random.nextInt(3) * 10;
+        textPercent = random.nextInt(3) == 0 ? 8 : 1;
         busy = random.nextBoolean();
     }
 
     public static void main(String[] args) {
-        int runs = args.length > 0 ? Integer.parseInt(args[0]) : 150;
+        int runs = args.length > 0 ? Integer.parseInt(args[0]) : 250;
         int first = args.length > 1 ? Integer.parseInt(args[1]) : 1;
         for (int seed = first; seed < first + runs && !Check.anyWrong(); seed++) {
             new RandomRunsTest(seed).run();
@@ -33,19 +53,47 @@ public final class RandomRunsTest {
 
     private void run() {
         lay();
-        for (int call = 0; call < CALLS && !Check.anyWrong(); call++) {
+        if (random.nextInt(4) == 0) {
+            crowd();
+        }
+        for (int step = 0; made.size() < LONG_RUN && !Check.anyWrong(); step++) {
             act(random.nextInt(100));
-            if (call % 8 == 0) {
+            if (step % 8 == 0) {
                 lookAtAll();
             }
-            if (call % 16 == 0) {
+            if (step % 16 == 0) {
                 lookAhead();
             }
         }
+        lookAtAll();
     }
 
-    private void same(String call, int got, int want) {
-        Check.due(name + ": " + call, got, want);
+    private void make(String method, int... with) {
+        Call call = new Call(method, with);
+        Due due = new Due(call, call.of(reference));
+        made.add(due);
+        due.compare(name, line);
+    }
+
+    private void ask(String method, int... with) {
+        Call call = new Call(method, with);
+        asked.add(new Due(call, call.of(reference)));
+    }
+
+    private void answerWhatIsAsked() {
+        Collections.shuffle(asked, random);
+        int each = MOST_CALLS - made.size();
+        for (int first = 0; first < asked.size() && !Check.anyWrong(); first += each) {
+            MercuryLine x = new MercuryLine();
+            for (Due due : made) {
+                due.compare(name, x);
+            }
+            String when = name + "after " + made.size() + " calls ";
+            for (Due due : asked.subList(first, Math.min(first + each, asked.size()))) {
+                due.compare(when, x);
+            }
+        }
+        asked.clear();
     }
 
     private boolean goesWrong() {
@@ -81,104 +129,74 @@ public final class RandomRunsTest {
     private void lay() {
         for (int n = 0; n < 2; n++) {
             if (random.nextInt(3) > 0) {
-                int slots = 2 + random.nextInt(busy ? 5 : 23);
-                same("build", line.build(n, slots), reference.build(n, slots));
+                make("build", n, 2 + random.nextInt(busy ? 5 : 23));
             }
             int stations = 1 + random.nextInt(6);
             for (int i = 0; i < stations; i++) {
-                int offset = random.nextInt(24);
-                same("addStation", line.addStation(n, offset), reference.addStation(n, offset));
+                make("addStation", n, random.nextInt(24));
             }
-            int heat = random.nextInt(21) - 10;
-            same("setHeat", line.setHeat(n, heat), reference.setHeat(n, heat));
+            make("setHeat", n, random.nextInt(21) - 10);
+        }
+    }
+
+    /** Many tickets at once: some runs come to the 40th and beyond. */
+    private void crowd() {
+        int tickets = 20 + random.nextInt(19);
+        for (int i = 0; i < tickets; i++) {
+            book();
         }
     }
 
     private void act(int choice) {
-        if (choice < 24) {
-            book();
-        } else if (choice < 48) {
-            int ticks = random.nextInt(100) < longTickPercent ? from(1, 60) : from(1, 3);
-            same("tick(" + ticks + ")", line.tick(ticks), reference.tick(ticks));
-        } else if (choice < 56) {
-            int station = aStation();
-            int value = from(0, values);
-            same("call(" + station + ", " + value + ")", line.call(station, value), reference.call(station, value));
-        } else if (choice < 58) {
-            int station = aStation();
-            same("callBack(" + station + ")", line.callBack(station), reference.callBack(station));
-        } else if (choice < 63) {
-            int ticket = aTicket();
-            same("cancel(" + ticket + ")", line.cancel(ticket), reference.cancel(ticket));
-        } else if (choice < 66) {
-            int ticket = aTicket();
-            int period = from(1, 50);
-            same("order(" + ticket + ", " + period + ")", line.order(ticket, period), reference.order(ticket, period));
-        } else if (choice < 68) {
-            int order = from(0, 3);
-            same("endOrder(" + order + ")", line.endOrder(order), reference.endOrder(order));
-        } else if (choice < 80) {
-            change(random.nextInt(7));
-        } else if (choice < 88) {
+        if (choice < textPercent) {
             text();
+        } else if (choice < 32) {
+            book();
+        } else if (choice < 56) {
+            make("tick", random.nextInt(100) < longTickPercent ? from(1, 60) : from(1, 3));
+        } else if (choice < 64) {
+            make("call", aStation(), from(0, values));
+        } else if (choice < 66) {
+            make("callBack", aStation());
+        } else if (choice < 71) {
+            make("cancel", aTicket());
+        } else if (choice < 74) {
+            make("order", aTicket(), from(1, 50));
+        } else if (choice < 76) {
+            make("endOrder", from(0, 3));
+        } else if (choice < 88) {
+            change(random.nextInt(7));
         } else if (choice < 95) {
-            same("undo()", line.undo(), reference.undo());
+            make("undo");
         } else if (choice < 97) {
-            same("keep()", line.keep(), reference.keep());
+            make("keep");
         } else {
-            same("restore()", line.restore(), reference.restore());
+            make("restore");
         }
     }
 
     private void book() {
-        int value = from(0, values);
-        int kind = from(1, 3);
-        int from = aStation();
-        int to = aStation();
-        int laps = from(1, random.nextBoolean() ? 2 : 9);
-        same("book(" + value + ", " + kind + ", " + from + ", " + to + ", " + laps + ")",
-            line.book(value, kind, from, to, laps), reference.book(value, kind, from, to, laps));
+        make("book", from(0, values), from(1, 3), aStation(), aStation(), from(1, random.nextBoolean() ? 2 : 9));
     }
 
     private void change(int choice) {
-        int n = aLine();
         switch (choice) {
-            case 0: {
-                int slots = from(2, 24);
-                same("build(" + n + ", " + slots + ")", line.build(n, slots), reference.build(n, slots));
-                break;
-            }
-            case 1: {
-                int offset = from(0, 23);
-                same("addStation(" + n + ", " + offset + ")", line.addStation(n, offset), reference.addStation(n, offset));
-                break;
-            }
+            case 0: make("build", aLine(), from(2, 24)); break;
+            case 1: make("addStation", aLine(), from(0, 23)); break;
             case 2:
-            case 3: {
-                int heat = from(-10, 10);
-                same("setHeat(" + n + ", " + heat + ")", line.setHeat(n, heat), reference.setHeat(n, heat));
-                break;
-            }
-            case 4: {
-                int fare = from(1, 99);
-                same("setFare(" + fare + ")", line.setFare(fare), reference.setFare(fare));
-                break;
-            }
-            case 5: {
-                int ticks = random.nextBoolean() ? from(0, 4) : from(0, 50);
-                same("setPatience(" + ticks + ")", line.setPatience(ticks), reference.setPatience(ticks));
-                break;
-            }
+            case 3: make("setHeat", aLine(), from(-10, 10)); break;
+            case 4: make("setFare", from(1, 99)); break;
+            case 5: make("setPatience", from(0, random.nextBoolean() ? 4 : 50)); break;
             default:
                 if (random.nextInt(3) == 0) {
-                    same("drain(" + n + ")", line.drain(n), reference.drain(n));
+                    make("drain", aLine());
                 }
         }
     }
 
     private void text() {
         if (random.nextInt(4) > 0) {
-            same("clearText()", line.clearText(), reference.clearText());
+            make("clearText");
         }
         int tickets = random.nextInt(4) == 0 ? 5 : 1 + random.nextInt(2);
         StringBuilder wanted = new StringBuilder();
@@ -186,27 +204,22 @@ public final class RandomRunsTest {
             wanted.append(i == 0 ? "" : ";").append(ticketText());
         }
         spoil(wanted);
-        for (int i = 0; i < wanted.length(); i++) {
-            char c = wanted.charAt(i);
-            same("type(" + (int) c + ")", line.type(c), reference.type(c));
+        for (int i = 0; i < wanted.length() && i <= 60; i++) {
+            make("type", wanted.charAt(i));
         }
-        same("readTickets() of " + wanted, line.readTickets(), reference.readTickets());
+        make("readTickets");
     }
 
     private String ticketText() {
         int value = random.nextInt(6) == 0 ? random.nextInt(100000) : random.nextInt(values + 1);
-        return value + "," + (1 + random.nextInt(3)) + "," + twoDigits(aPlace()) + ">"
-            + twoDigits(aPlace()) + "*" + (1 + random.nextInt(9));
+        return value + "," + (1 + random.nextInt(3)) + "," + aPlace() + ">" + aPlace() + "*" + (1 + random.nextInt(9));
     }
 
-    private int aPlace() {
+    /** Two digits: mostly of a station that there is. */
+    private String aPlace() {
         int line = random.nextInt(2);
         int stations = Math.max(1, reference.line(line, 4));
-        return 10 * line + (random.nextInt(12) == 0 ? random.nextInt(6) : random.nextInt(stations));
-    }
-
-    private static String twoDigits(int code) {
-        return code < 10 ? "0" + code : "" + code;
+        return "" + line + (random.nextInt(12) == 0 ? random.nextInt(6) : random.nextInt(stations));
     }
 
     private void spoil(StringBuilder wanted) {
@@ -225,65 +238,49 @@ public final class RandomRunsTest {
     }
 
     private void lookAtAll() {
-        for (int what = -1; what <= 21; what++) {
-            same("count(" + what + ")", line.count(what), reference.count(what));
-        }
+        askAll("count", 21);
         for (int n = -1; n <= 2; n++) {
-            for (int what = -1; what <= 9; what++) {
-                same("line(" + n + ", " + what + ")", line.line(n, what), reference.line(n, what));
-            }
-            for (int slot = -1; slot <= 24; slot++) {
-                same("slot(" + n + ", " + slot + ")", line.slot(n, slot), reference.slot(n, slot));
-            }
+            askAll("line", n, 9);
+            askAll("slot", n, 24);
         }
         for (int station = -1; station <= 20; station++) {
-            lookAtStation(station);
+            askAll("station", station, 9);
+            askAll("waiting", station, 6);
+            askAll("calls", station, 3);
         }
         for (int ticket = -1; ticket <= 40; ticket++) {
-            for (int what = -1; what <= 14; what++) {
-                same("ticket(" + ticket + ", " + what + ")", line.ticket(ticket, what), reference.ticket(ticket, what));
-            }
+            askAll("ticket", ticket, 14);
         }
         for (int order = -1; order <= 4; order++) {
-            for (int what = -1; what <= 7; what++) {
-                same("ordered(" + order + ", " + what + ")", line.ordered(order, what), reference.ordered(order, what));
-            }
+            askAll("ordered", order, 7);
         }
         for (int back = -1; back <= 12; back++) {
-            for (int what = -1; what <= 5; what++) {
-                same("event(" + back + ", " + what + ")", line.event(back, what), reference.event(back, what));
-            }
+            askAll("event", back, 5);
         }
-        int kind = from(1, 3);
-        int laps = from(1, 9);
-        same("price(" + kind + ", " + laps + ")", line.price(kind, laps), reference.price(kind, laps));
+        ask("price", from(1, 3), from(1, 9));
+        answerWhatIsAsked();
     }
 
-    private void lookAtStation(int station) {
-        for (int what = -1; what <= 9; what++) {
-            same("station(" + station + ", " + what + ")", line.station(station, what), reference.station(station, what));
+    private void askAll(String method, int last) {
+        for (int what = -1; what <= last; what++) {
+            ask(method, what);
         }
-        for (int place = -1; place <= 6; place++) {
-            same("waiting(" + station + ", " + place + ")", line.waiting(station, place), reference.waiting(station, place));
-        }
-        for (int place = -1; place <= 3; place++) {
-            same("calls(" + station + ", " + place + ")", line.calls(station, place), reference.calls(station, place));
+    }
+
+    private void askAll(String method, int number, int last) {
+        for (int what = -1; what <= last; what++) {
+            ask(method, number, what);
         }
     }
 
     private void lookAhead() {
         for (int i = 0; i < 4; i++) {
-            int ticket = aTicket();
-            int what = from(0, 3);
-            same("fate(" + ticket + ", " + what + ")", line.fate(ticket, what), reference.fate(ticket, what));
+            make("fate", aTicket(), from(0, 3));
         }
-        int station = aStation();
-        int ticks = from(0, 300);
-        same("slotIn(" + station + ", " + ticks + ")", line.slotIn(station, ticks), reference.slotIn(station, ticks));
+        make("slotIn", aStation(), from(0, 300));
         for (int i = 0; i < 4; i++) {
             int from = aStation();
-            int to = random.nextInt(5) == 0 ? aStation() : from / 10 * 10 + random.nextInt(6);
-            same("lapsNeeded(" + from + ", " + to + ")", line.lapsNeeded(from, to), reference.lapsNeeded(from, to));
+            make("lapsNeeded", from, random.nextInt(5) == 0 ? aStation() : from / 10 * 10 + random.nextInt(6));
         }
     }
 }
